@@ -245,7 +245,7 @@ public final class PromiseTests {
         due("P16 the same", () -> x.choose(0, 0, 2, 2), PART);
         due("P16 choose", () -> x.choose(1, 1, 2, 3), 6);
         due("P17 no variable, no statement", () -> x.repeat(true, 1, 5, 9, 0), ARGUMENT);
-        due("P17 no other variable", () -> x.repeat(true, -1, 5, 9, 0), ARGUMENT);
+        due("P17 no variable, but another one", () -> x.repeat(true, -1, 0, 9, 0), ARGUMENT);
         due("P17 no assertion, a part", () -> x.repeat(true, 1, 2, 0, 0), INDEX);
         x.addAssertion();
         due("P17 no statement", () -> x.repeat(true, 1, 2, 7, 0), INDEX);
@@ -420,6 +420,55 @@ public final class PromiseTests {
         due("P26 after all", () -> x.isSound(), true);
     }
 
+    /** A list at whose place a statement looks has one cell, or two and more. */
+    private static void openingLists() {
+        Heapwitness x = new Heapwitness();
+        int full = assertion(x, "1#0 1-0");
+        int rest = assertion(x, "1.2 2-0");
+        int single = assertion(x, "1.2 2=0");
+        int longer = assertion(x, "1.2 2#0 2-0");
+        int empty = assertion(x, "");
+        int cell = assertion(x, "1.1");
+        int load = x.load(2, 1);
+        due("P11 a rest that can be empty", () -> x.prove(full, load, rest), 'p');
+        due("P11 a rest that is empty", () -> x.prove(full, load, single), 'l');
+        due("P11 a rest that is not empty", () -> x.prove(full, load, longer), 'l');
+        // of 2 + 2 + 2 + 4 heaps, for 2 at nil, at 1, outside and within, three have one cell
+        due("P22 two cells", () -> x.witnesses(full, load, single), 7);
+        due("P21 two cells", () -> x.witness(full, load, single), 2);
+        due("P21 one cell", () -> x.witness(full, load, longer), 1);
+        int free = x.free(1);
+        due("P14 a rest that can be there", () -> x.prove(full, free, empty), 'l');
+        due("P21 two cells", () -> x.witness(full, free, empty), 2);
+        int store = x.store(1, 1);
+        due("P12 a rest that can be there", () -> x.prove(full, store, cell), 'l');
+        due("P22 two cells", () -> x.witnesses(full, store, cell), 1);
+        due("P12 a rest that is named", () -> x.prove(full, x.follow(load, store), assertion(x, "1.1 2-0")), 'p');
+        int twice = inRow(x, x.load(2, 1), x.load(2, 2));
+        due("P11 behind one cell it goes wrong", () -> x.prove(full, twice, full), 'w');
+        due("P19 with the second load", () -> x.wrongAt(), twice - 1);
+        due("P22 the list of one cell", () -> x.witnesses(full, twice, full), 3);
+        due("P18 a list of a cell and a rest", () -> x.prove(longer, x.load(2, 2), full), 'p');
+    }
+
+    /** A proof is not looked at again after a fact or an atom has been added, by a call that did not throw. */
+    private static void changingBehindAProof() {
+        Heapwitness x = new Heapwitness();
+        int list = assertion(x, "1-0");
+        int same = assertion(x, "1-0");
+        int step = x.assign(2, 2);
+        due("P18 nothing is changed", () -> x.prove(list, step, same), 'p');
+        due("P26 before a fact", () -> x.isSound(), true);
+        due("P3 a fact that never holds", () -> x.addFact(same, false, 1, 1), 1);
+        due("P22 it has witnesses now", () -> x.witnesses(list, step, same), 12);
+        due("P26 after a fact", () -> x.isSound(), true);
+        int more = assertion(x, "1-0");
+        due("P18 again", () -> x.prove(list, step, more), 'p');
+        due("P26 before an atom", () -> x.isSound(), true);
+        due("P4 an atom that is not there", () -> x.addAtom(more, false, 1, 1), 2);
+        due("P26 after an atom", () -> x.isSound(), true);
+    }
+
     /** Loops in loops, and behind one another: each is gone through once for all that come. */
     private static void loopsInLoops() {
         Heapwitness x = new Heapwitness();
@@ -548,6 +597,8 @@ public final class PromiseTests {
         goingWrong();
         lowestOfBoth();
         changingHeaps();
+        openingLists();
+        changingBehindAProof();
         loopsInLoops();
         fortyStatements();
         figures();
