@@ -1,65 +1,5 @@
-import java.util.Objects;
-
 /** What each promise asks for: ordinary calls, the edges that the document names, and wrong ones. */
-public final class PromiseTests {
-    private interface Call {
-        Object answer();
-    }
-
-    private static final String INDEX = "throws.IndexOutOfBoundsException";
-    private static final String ARGUMENT = "throws.IllegalArgumentException";
-    private static final String STATE = "throws.IllegalStateException";
-    private static final String PART = "throws.UnsupportedOperationException";
-    private static final String NO_ELEMENT = "throws.NoSuchElementException";
-    private static final String ARITHMETIC = "throws.ArithmeticException";
-
-    private static int wrong = 0;
-
-    private static void due(String what, Call call, Object want) {
-        Object got;
-        try {
-            got = call.answer();
-        } catch (RuntimeException e) {
-            got = "throws." + e.getClass().getSimpleName();
-        }
-        if (!Objects.equals(got, want)) {
-            wrong++;
-            System.out.println(what + " answered " + got + ", due is " + want);
-        }
-    }
-
-    /** An assertion from a text such as "1=2 1#0 1.2 3-0": facts, a cell from 1 to 2, a list from 3 to nil. */
-    private static int assertion(Heapwitness x, String text) {
-        int number = x.addAssertion();
-        for (String word : text.split(" ")) {
-            if (!word.isEmpty()) {
-                int left = word.charAt(0) - '0';
-                int right = word.charAt(2) - '0';
-                char sign = word.charAt(1);
-                if (sign == '=' || sign == '#') {
-                    x.addFact(number, sign == '=', left, right);
-                } else {
-                    x.addAtom(number, sign == '-', left, right);
-                }
-            }
-        }
-        return number;
-    }
-
-    /** Statements that follow each other, the first one first. */
-    private static int inRow(Heapwitness x, int... numbers) {
-        int whole = numbers[0];
-        for (int i = 1; i < numbers.length; i++) {
-            whole = x.follow(whole, numbers[i]);
-        }
-        return whole;
-    }
-
-    private static int statesOf(String text) {
-        Heapwitness x = new Heapwitness();
-        return x.states(assertion(x, text));
-    }
-
+public final class PromiseTests extends Check {
     private static void newObject() {
         Heapwitness x = new Heapwitness();
         due("P1 states(0)", () -> x.states(0), INDEX);
@@ -189,11 +129,6 @@ public final class PromiseTests {
         due("P8 the list does not go by 2", () -> x.against(list, two), 0);
         due("P8 a cell is not nothing", () -> x.against(cell, empty), 1);
         due("P8 a ring of two", () -> x.against(ring, empty), 2);
-    }
-
-    private static int leftOf(String one, String other) {
-        Heapwitness x = new Heapwitness();
-        return x.left(assertion(x, one), assertion(x, other));
     }
 
     private static void leaving() {
@@ -561,11 +496,6 @@ public final class PromiseTests {
         due("P21 wrong with the 41st", () -> z.witness(one, at41, nothing), NO_ELEMENT);
     }
 
-    private static double meanOf(String text) {
-        Heapwitness x = new Heapwitness();
-        return x.meanAtoms(assertion(x, text));
-    }
-
     private static void figures() {
         due("P25 no states", () -> meanOf("1#1"), ARITHMETIC);
         due("P25 nothing", () -> meanOf(""), 0.0);
@@ -602,9 +532,6 @@ public final class PromiseTests {
         loopsInLoops();
         fortyStatements();
         figures();
-        System.out.println(wrong == 0 ? "all answers are as due" : wrong + " answers are not as due");
-        if (wrong != 0) {
-            System.exit(1);
-        }
+        tell();
     }
 }
