@@ -815,6 +815,11 @@ public final class EdgeTests extends Check {
         due("two cells, as one is right", () -> x.witness(full, x.free(1), empty), 2);
         due("none, as all are right", () -> x.witness(cell, x.free(1), empty), NO_ELEMENT);
         due("no heap at all", () -> x.witness(assertion(x, "1#1"), x.free(1), empty), NO_ELEMENT);
+        int either = assertion(x, "1-2 1#0");
+        int never = assertion(x, "1#1");
+        due("a list to nil, no list, or one to a place", () -> x.witnesses(either, x.assign(1, 1), never), 2 + 1 + 2);
+        due("the smallest of all states, in whichever order", () -> x.witness(either, x.assign(1, 1), never), 0);
+        due("which is the smallest against it, too", () -> x.against(either, never), 0);
     }
 
     // ---- Promises
